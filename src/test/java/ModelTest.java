@@ -1,0 +1,522 @@
+import java.math.BigInteger;
+import java.util.ArrayDeque;
+import java.util.ArrayList;
+import java.util.HashSet;
+import java.util.List;
+import java.util.Random;
+
+/** Random runs against a second, plainer telling of the document (seeds are fixed: each run is the same). */
+public final class ModelTest {
+    private static final int RUNS = 250, CALLS = 120;
+    private static int wrong = 0;
+
+    private static void due(String what, long got, long want) {
+        if (got != want) {
+            wrong++;
+            if (wrong < 40) {
+                System.out.println(what + " answered " + got + ", due is " + want);
+            }
+        }
+    }
+
+    public static void main(String[] args) {
+        for (int run = 0; run < RUNS; run++) {
+            new Run(run).go();
+        }
+        everyMoodOfEveryKind();
+        System.out.println(wrong == 0 ? "all is as the model says" : wrong + " answers are not as the model's");
+        if (wrong != 0) {
+            System.exit(1);
+        }
+    }
+
+    /** FEWEST over a net of moods, with every KIND, so that the search's shortcuts are tried. */
+    private static void everyMoodOfEveryKind() {
+        JarSpirit x = new JarSpirit();
+        for (int kind = 0; kind < 6; kind++) {
+            for (int gap = 1; gap <= 5; gap += 2) {
+                for (int height = 1; height <= 49; height += 4) {
+                    for (int pride = 0; pride <= 12; pride += 3) {
+                        Soul soul = new Soul(kind, 30 - gap, pride, 30, height);
+                        x.jar(kind);
+                        x.bound(30, height);
+                        x.mood(30 - gap, pride);
+                        compareFewest("kind " + kind + " gap " + gap + " height " + height + " pride " + pride, x, soul);
+                    }
+                }
+            }
+        }
+    }
+
+    private static void compareFewest(String where, JarSpirit x, Soul soul) {
+        List<Integer> row = soul.fewest();
+        due(where + " fewest", x.fewest(-1), row == null ? -1 : row.size());
+        for (int i = 0; row != null && i <= row.size(); i++) {
+            due(where + " fewest " + i, x.fewest(i), i < row.size() ? row.get(i) : -5);
+        }
+    }
+
+    /** A spirit, copied at each word. */
+    private static final class Soul {
+        int kind, anger, pride, wrath, height, said, being;
+
+        Soul(int kind, int anger, int pride, int wrath, int height) {
+            this.kind = kind;
+            this.anger = anger;
+            this.pride = pride;
+            this.wrath = wrath;
+            this.height = height;
+        }
+
+        Soul copy() {
+            Soul s = new Soul(kind, anger, pride, wrath, height);
+            s.said = said;
+            s.being = being;
+            return s;
+        }
+
+        static int[] move(int kind, int w, int n) {
+            int[] plain = new int[][] {{-1, 0}, {1, 3}, {0, 2}, {-2, 0}, {-3, -1}, {2, 0}}[w];
+            if (kind == 0) {
+                return plain;
+            }
+            int under = kind == 4 ? 1 : kind == 5 ? 2 : 0;
+            int[] m = move(under, w, n);
+            switch (kind) {
+                case 1: return new int[] {m[0] < 0 ? -(-m[0] / 2) : m[0] / 2, m[1]};
+                case 2: return new int[] {m[0] - 1, m[1]};
+                case 3: return new int[] {m[0], -m[1]};
+                case 4: return n % 2 == 1 ? new int[] {0, 0} : m;
+                default: return new int[] {2 * m[0], m[1] + 1};
+            }
+        }
+
+        Soul after(int w) {
+            return after(w, false);
+        }
+
+        Soul after(int w, boolean sham) {
+            Soul s = copy();
+            if (being != 0) {
+                return s;
+            }
+            int[] m = move(kind, w, said);
+            if (!sham) {
+                s.anger = Math.min(99, Math.max(0, anger + m[0]));
+                s.pride = Math.min(99, Math.max(0, pride + m[1]));
+            }
+            s.said++;
+            s.being = s.anger >= wrath ? 2 : w == 1 && s.pride >= height ? 1 : 0;
+            return s;
+        }
+
+        /** Breadth first: the rows come by length, then rising. */
+        List<Integer> fewest() {
+            ArrayDeque<Soul> souls = new ArrayDeque<>();
+            ArrayDeque<List<Integer>> rows = new ArrayDeque<>();
+            HashSet<Integer> seen = new HashSet<>();
+            souls.add(this);
+            rows.add(new ArrayList<>());
+            while (!souls.isEmpty()) {
+                Soul s = souls.poll();
+                List<Integer> row = rows.poll();
+                if (s.being == 1) {
+                    return row;
+                }
+                if (s.being == 2 || row.size() == 12) {
+                    continue;
+                }
+                for (int w = 0; w < 6; w++) {
+                    Soul then = s.after(w);
+                    int key = ((then.anger * 100 + then.pride) * 3 + then.being) * 20 + row.size();
+                    if (seen.add(key)) {
+                        List<Integer> longer = new ArrayList<>(row);
+                        longer.add(w);
+                        souls.add(then);
+                        rows.add(longer);
+                    }
+                }
+            }
+            return null;
+        }
+
+        /** Breadth first, too: the first row of the last layer that is not empty. */
+        List<Integer> delay(boolean brief) {
+            List<Integer> best = new ArrayList<>();
+            List<Soul> souls = new ArrayList<>();
+            List<List<Integer>> rows = new ArrayList<>();
+            if (being == 0) {
+                souls.add(this);
+                rows.add(best);
+            }
+            for (int length = 1; length <= 12; length++) {
+                List<Soul> nextSouls = new ArrayList<>();
+                List<List<Integer>> nextRows = new ArrayList<>();
+                HashSet<Integer> seen = new HashSet<>();
+                for (int i = 0; i < souls.size(); i++) {
+                    for (int w = 0; w < 6; w++) {
+                        Soul then = souls.get(i).after(w);
+                        boolean allowed = !brief || w != 3 && w != 4;
+                        if (allowed && then.being == 0 && seen.add(then.anger * 100 + then.pride)) {
+                            List<Integer> longer = new ArrayList<>(rows.get(i));
+                            longer.add(w);
+                            nextSouls.add(then);
+                            nextRows.add(longer);
+                        }
+                    }
+                }
+                if (nextRows.isEmpty()) {
+                    return best;
+                }
+                best = nextRows.get(0);
+                souls = nextSouls;
+                rows = nextRows;
+            }
+            return best;
+        }
+
+        int strikes(int w) {
+            Soul s = copy();
+            for (int i = 1; i <= 60 && s.being == 0; i++) {
+                s = s.after(w);
+                if (s.being == 2) {
+                    return i;
+                }
+            }
+            return -1;
+        }
+
+        /** Each way of hearing is weighed apart. */
+        BigInteger[] odds(int[] row, int c) {
+            BigInteger sum = BigInteger.ZERO;
+            for (int heard = 0; heard < 1 << row.length; heard++) {
+                Soul s = copy();
+                BigInteger weight = BigInteger.ONE;
+                for (int i = 0; i < row.length; i++) {
+                    boolean hears = (heard >> i & 1) == 1;
+                    weight = weight.multiply(BigInteger.valueOf(hears ? c : 10 - c));
+                    s = hears ? s.after(row[i]) : s;
+                }
+                sum = s.being == 1 ? sum.add(weight) : sum;
+            }
+            BigInteger all = BigInteger.TEN.pow(row.length);
+            BigInteger divisor = sum.gcd(all);
+            return new BigInteger[] {sum.divide(divisor), all.divide(divisor)};
+        }
+
+        int jars(int seed, int n) {
+            BigInteger x = BigInteger.valueOf(seed);
+            int ins = 0;
+            for (int i = 0; i < n; i++) {
+                Soul s = copy();
+                for (int k = 0; k < 20 && s.being == 0; k++) {
+                    x = x.multiply(BigInteger.valueOf(1103515245)).add(BigInteger.valueOf(12345));
+                    x = x.mod(BigInteger.valueOf(2147483648L));
+                    s = s.after(x.divide(BigInteger.valueOf(65536)).mod(BigInteger.valueOf(6)).intValue());
+                }
+                ins += s.being == 1 ? 1 : 0;
+            }
+            return ins;
+        }
+
+        int lie(int w) {
+            int[][] gets = new int[2][2];
+            for (int his = 0; his < 2; his++) {
+                for (int ones = 0; ones < 2; ones++) {
+                    int being = after(ones == 0 ? w : 0, his == 1).being;
+                    gets[his][ones] = being == 1 ? 2 : being == 0 ? 1 : 0;
+                }
+            }
+            int bits = 0;
+            for (int his = 0; his < 2; his++) {
+                for (int ones = 0; ones < 2; ones++) {
+                    boolean oneRests = gets[his][1 - ones] <= gets[his][ones];
+                    boolean heRests = 2 - gets[1 - his][ones] <= 2 - gets[his][ones];
+                    bits += oneRests && heRests ? 1 << his * 2 + ones : 0;
+                }
+            }
+            return bits;
+        }
+    }
+
+    private static final class Run {
+        private final int number;
+        private final Random random;
+        private final JarSpirit x = new JarSpirit();
+        private Soul soul = new Soul(0, 20, 0, 40, 9);
+        private List<Soul> past = new ArrayList<>();
+        private List<int[]> notes = new ArrayList<>();
+        private int[] vows = {0, 1, 2, 3, 4, 4, 4, 4};
+        private String where;
+
+        Run(int number) {
+            this.number = number;
+            this.random = new Random(number);
+        }
+
+        void go() {
+            for (int call = 0; call < CALLS; call++) {
+                where = "run " + number + " call " + call;
+                change();
+                compareMind();
+                ask();
+            }
+        }
+
+        private int upTo(int most) {
+            return random.nextInt(most + 1);
+        }
+
+        private void change() {
+            switch (upTo(11)) {
+                case 0: changeJar(); break;
+                case 1: changeMood(); break;
+                case 2: changeBound(); break;
+                case 3: changeVow(); break;
+                case 4: changeNotes(); break;
+                case 5: lidOff(); break;
+                case 6: goBack(); break;
+                default: sayOne();
+            }
+        }
+
+        private void changeJar() {
+            if (upTo(3) != 0) {
+                return;
+            }
+            int kind = upTo(5);
+            due(where + " jar", x.jar(kind), soul.said);
+            soul = new Soul(kind, 20, 0, 40, 9);
+            past = new ArrayList<>();
+            notes = new ArrayList<>();
+            vows = new int[] {0, 1, 2, 3, 4, 4, 4, 4};
+        }
+
+        private void changeMood() {
+            int anger = upTo(upTo(1) == 0 ? 99 : 30);
+            int pride = upTo(upTo(1) == 0 ? 99 : 12);
+            boolean taken = anger < soul.wrath;
+            due(where + " mood", x.mood(anger, pride), taken ? 1 : -3);
+            soul.anger = taken ? anger : soul.anger;
+            soul.pride = taken ? pride : soul.pride;
+        }
+
+        private void changeBound() {
+            int wrath = 1 + upTo(98);
+            int height = 1 + upTo(upTo(1) == 0 ? 98 : 30);
+            boolean taken = soul.anger < wrath;
+            due(where + " bound", x.bound(wrath, height), taken ? 1 : -3);
+            soul.wrath = taken ? wrath : soul.wrath;
+            soul.height = taken ? height : soul.height;
+        }
+
+        private void changeVow() {
+            int c = upTo(7);
+            int v = upTo(4);
+            due(where + " vow", x.vow(c, v), vows[c]);
+            vows[c] = v;
+        }
+
+        private void changeNotes() {
+            if (notes.size() > 2) {
+                due(where + " forget", x.forget(), notes.size());
+                notes.clear();
+                return;
+            }
+            int w = upTo(5);
+            int n = upTo(9);
+            int[] m = Soul.move(upTo(5), w, n);
+            notes.add(new int[] {w, n, m[0], m[1]});
+            due(where + " note", x.note(w, n, m[0], m[1]), notes.size());
+        }
+
+        private void remember() {
+            past.add(soul.copy());
+            if (past.size() > 8) {
+                past.remove(0);
+            }
+        }
+
+        private void lidOff() {
+            due(where + " open", x.open(), soul.being == 1 ? soul.pride : -3);
+            if (soul.being == 1) {
+                remember();
+                soul.being = 0;
+                soul.pride = 0;
+            }
+        }
+
+        private void goBack() {
+            if (past.isEmpty()) {
+                due(where + " undo", x.undo(), -3);
+                return;
+            }
+            Soul old = past.remove(past.size() - 1);
+            soul.anger = old.anger;
+            soul.pride = old.pride;
+            soul.said = old.said;
+            soul.being = old.being;
+            due(where + " undo", x.undo(), soul.said);
+        }
+
+        private void sayOne() {
+            int w = upTo(5);
+            if (soul.being != 0) {
+                due(where + " say", x.say(w), -3);
+                return;
+            }
+            remember();
+            soul = soul.after(w);
+            due(where + " say", x.say(w), soul.being);
+        }
+
+        private void compareMind() {
+            int[] mind = {soul.kind, soul.anger, soul.pride, soul.wrath, soul.height, soul.said, soul.being};
+            for (int what = 0; what < mind.length; what++) {
+                due(where + " now " + what, x.now(what), mind[what]);
+            }
+            due(where + " undos", x.count(2), past.size());
+        }
+
+        private void ask() {
+            switch (upTo(8)) {
+                case 0: askWords(); break;
+                case 1: compareFewest(where, x, soul); break;
+                case 2: askDelay(); break;
+                case 3: askStrikes(); break;
+                case 4: askVows(); break;
+                case 5: askKinds(); break;
+                case 6: askLie(); break;
+                case 7: askOdds(); break;
+                default: askJars();
+            }
+        }
+
+        private int[] anyRow(int most) {
+            int[] row = new int[upTo(most)];
+            for (int i = 0; i < row.length; i++) {
+                row[i] = upTo(1) == 0 ? 1 : upTo(5);
+            }
+            return row;
+        }
+
+        private int told(int[] row) {
+            int number = 0;
+            for (int w : row) {
+                number = number * 10 + w + 1;
+            }
+            return number;
+        }
+
+        private void askWords() {
+            int[] row = anyRow(9);
+            Soul s = soul;
+            for (int w : row) {
+                s = s.after(w);
+            }
+            int[] dues = {s.anger, s.pride, s.being, s.said - soul.said};
+            for (int what = 0; what < 4; what++) {
+                due(where + " words " + told(row) + " " + what, x.words(told(row), what), dues[what]);
+            }
+        }
+
+        private void askDelay() {
+            for (int which = 0; which < 2; which++) {
+                List<Integer> row = soul.delay(which == 1);
+                due(where + " delay", x.delay(which, -1), row.size());
+                for (int i = 0; i <= row.size(); i++) {
+                    due(where + " delay " + i, x.delay(which, i), i < row.size() ? row.get(i) : -5);
+                }
+            }
+        }
+
+        private void askStrikes() {
+            for (int w = 0; w < 6; w++) {
+                due(where + " strikes " + w, x.strikes(w), soul.strikes(w));
+                int[] m = Soul.move(soul.kind, w, soul.said);
+                due(where + " moves ANGER " + w, x.moves(w, 0), m[0]);
+                due(where + " moves PRIDE " + w, x.moves(w, 1), m[1]);
+            }
+        }
+
+        private void askVows() {
+            for (int v = 0; v < 5; v++) {
+                int bits = 0;
+                int castUp = -1;
+                for (int c = 7; c >= 0; c--) {
+                    bits += vows[c] == v ? 1 << c : 0;
+                    boolean fromHere = true;
+                    for (int later = c; later < 8; later++) {
+                        fromHere &= vows[later] >= v;
+                    }
+                    castUp = fromHere ? c : castUp;
+                }
+                due(where + " since " + v, x.since(v), bits);
+                due(where + " cast " + v, x.cast(v), castUp);
+            }
+            int c = upTo(7);
+            int sum = 0;
+            for (int i = c; i < 8; i++) {
+                sum += vows[i] == 4 ? -4 : vows[i];
+            }
+            due(where + " reward", x.reward(c), 1);
+            due(where + " reward", x.part(0) * (8 - c), sum * x.part(1));
+            due(where + " lowest terms", BigInteger.valueOf(x.part(0)).gcd(BigInteger.valueOf(x.part(1))).intValue(), 1);
+        }
+
+        private void askKinds() {
+            List<Integer> kinds = new ArrayList<>();
+            int bits = 0;
+            for (int kind = 0; kind < 6; kind++) {
+                boolean fits = true;
+                for (int[] n : notes) {
+                    int[] m = Soul.move(kind, n[0], n[1]);
+                    fits &= m[0] == n[2] && m[1] == n[3];
+                }
+                if (fits) {
+                    kinds.add(kind);
+                    bits += 1 << kind;
+                }
+            }
+            due(where + " is", x.is(), bits);
+            int best = -1;
+            int fewest = 100;
+            for (int w = 0; w < 6 && !kinds.isEmpty(); w++) {
+                int most = 0;
+                for (int kind : kinds) {
+                    int alike = 0;
+                    for (int other : kinds) {
+                        alike += java.util.Arrays.equals(Soul.move(kind, w, soul.said), Soul.move(other, w, soul.said)) ? 1 : 0;
+                    }
+                    most = Math.max(most, alike);
+                }
+                if (most < fewest) {
+                    fewest = most;
+                    best = w;
+                }
+            }
+            due(where + " next", x.next(), best);
+        }
+
+        private void askLie() {
+            for (int w = 0; w < 6; w++) {
+                due(where + " lie " + w, x.lie(w), soul.being == 0 ? soul.lie(w) : -3);
+            }
+        }
+
+        private void askOdds() {
+            int[] row = anyRow(7);
+            int c = upTo(10);
+            BigInteger[] odds = soul.odds(row, c);
+            due(where + " odds", x.odds(told(row), c), 1);
+            due(where + " odds above", x.part(0), odds[0].longValue());
+            due(where + " odds below", x.part(1), odds[1].longValue());
+        }
+
+        private void askJars() {
+            int seed = upTo(999999);
+            int n = upTo(60);
+            due(where + " jars", x.jars(seed, n), soul.jars(seed, n));
+        }
+    }
+}
