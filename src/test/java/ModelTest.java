@@ -4,46 +4,170 @@ import java.util.ArrayList;
 import java.util.HashSet;
 import java.util.List;
 import java.util.Random;
+import java.util.regex.Matcher;
+import java.util.regex.Pattern;
 
 /** Random runs against a second, plainer telling of the document (seeds are fixed: each run is the same). */
-public final class ModelTest {
-    private static final int RUNS = 250, CALLS = 120;
-    private static int wrong = 0;
-
-    private static void due(String what, long got, long want) {
-        if (got != want) {
-            wrong++;
-            if (wrong < 40) {
-                System.out.println(what + " answered " + got + ", due is " + want);
-            }
-        }
-    }
+public final class ModelTest extends Check {
+    private static final int RUNS = 250, CALLS = 120, TEXTS = 20000;
 
     public static void main(String[] args) {
         for (int run = 0; run < RUNS; run++) {
             new Run(run).go();
         }
         everyMoodOfEveryKind();
-        System.out.println(wrong == 0 ? "all is as the model says" : wrong + " answers are not as the model's");
-        if (wrong != 0) {
-            System.exit(1);
-        }
+        randomTexts();
+        end("all is as the model says");
     }
 
     /** FEWEST over a net of moods, with every KIND, so that the search's shortcuts are tried. */
     private static void everyMoodOfEveryKind() {
-        JarSpirit x = new JarSpirit();
         for (int kind = 0; kind < 6; kind++) {
             for (int gap = 1; gap <= 5; gap += 2) {
                 for (int height = 1; height <= 49; height += 4) {
                     for (int pride = 0; pride <= 12; pride += 3) {
                         Soul soul = new Soul(kind, 30 - gap, pride, 30, height);
-                        x.jar(kind);
-                        x.bound(30, height);
-                        x.mood(30 - gap, pride);
+                        JarSpirit x = jarOf(kind, 30 - gap, pride, 30, height);
                         compareFewest("kind " + kind + " gap " + gap + " height " + height + " pride " + pride, x, soul);
                     }
                 }
+            }
+        }
+    }
+
+    /** Texts of ITEMS with numbers at their edges, some of them spoilt by a byte or two. */
+    private static void randomTexts() {
+        Random random = new Random(8);
+        int whole = 0;
+        for (int i = 0; i < TEXTS; i++) {
+            JarSpirit x = new JarSpirit();
+            String text = anyText(random);
+            type(x, text);
+            Telling telling = new Telling(text);
+            int want = telling.read();
+            due("read of \"" + text + "\"", x.read(), want);
+            if (want > 0) {
+                whole++;
+                Soul s = telling.soul;
+                int[] now = {s.kind, s.anger, s.pride, s.wrath, s.height, s.said, s.being};
+                for (int what = 0; what < now.length; what++) {
+                    due("now " + what + " of \"" + text + "\"", x.now(what), now[what]);
+                }
+                for (int c = 0; c < 8; c++) {
+                    due("vow " + c + " of \"" + text + "\"", x.since(telling.vows[c]) >> c & 1, 1);
+                }
+            }
+        }
+        due("some texts are whole, some are not", whole > TEXTS / 5 && whole < TEXTS * 4 / 5 ? 1 : 0, 1);
+    }
+
+    private static String anyText(Random random) {
+        StringBuilder text = new StringBuilder(anyItem(random, 0));
+        for (int items = random.nextInt(9); items > 0; items--) {
+            text.append(anyItem(random, 1 + random.nextInt(4)));
+        }
+        String signs = "jarmodbunvwsyzj0123456789;;  -{`/:!\177\0";
+        for (int spoils = random.nextInt(4) - 1; spoils > 0 && text.length() > 0; spoils--) {
+            int place = random.nextInt(text.length());
+            char sign = signs.charAt(random.nextInt(signs.length()));
+            switch (random.nextInt(4)) {
+                case 0: text.deleteCharAt(place); break;
+                case 1: text.insert(place, sign); break;
+                case 2: text.setCharAt(place, sign); break;
+                default: text.setLength(place);
+            }
+        }
+        text.setLength(Math.min(150, text.length()));
+        return text.toString();
+    }
+
+    private static String anyItem(Random random, int word) {
+        int[][][] edges = {{{0, 5}}, {{0, 39}, {0, 99}}, {{21, 99}, {1, 99}}, {{0, 7}, {0, 4}}, {{0, 5}}};
+        StringBuilder item = new StringBuilder(blanks(random, 0)).append(Telling.WORDS[word]);
+        for (int i = 0; i < edges[word].length; i++) {
+            int[] edge = edges[word][i];
+            int number = random.nextInt(12) == 0
+                ? edge[random.nextInt(2)] + random.nextInt(3) - 1
+                : edge[0] + random.nextInt(Math.min(edge[1] - edge[0] + 1, word == 1 ? 22 : 99));
+            item.append(blanks(random, i)).append(random.nextInt(9) == 0 ? "0" : "").append(Math.max(0, number));
+        }
+        return item.append(blanks(random, 0)).append(';').toString();
+    }
+
+    private static String blanks(Random random, int least) {
+        return "   ".substring(0, Math.max(least, random.nextInt(9) - 5));
+    }
+
+    /** THE TEXT told a second time: TOKENS by a pattern, a row of what each ITEM wants. */
+    private static final class Telling {
+        static final String[] WORDS = {"jar", "mood", "bound", "vow", "say"};
+        private final List<String> tokens = new ArrayList<>();
+        private final List<Integer> starts = new ArrayList<>();
+        private final Soul soul = new Soul(0, 20, 0, 40, 9);
+        private final int[] vows = {0, 1, 2, 3, 4, 4, 4, 4};
+
+        Telling(String text) {
+            Matcher matcher = Pattern.compile("[a-z]+|[0-9]+|[^ ]", Pattern.DOTALL).matcher(text);
+            while (matcher.find()) {
+                tokens.add(matcher.group());
+                starts.add(matcher.start());
+            }
+            tokens.add("");
+            starts.add(text.length());
+        }
+
+        int read() {
+            int at = 0;
+            int items = 0;
+            while (at == 0 || at < tokens.size() - 1) {
+                int word = java.util.Arrays.asList(WORDS).indexOf(tokens.get(at));
+                if (word < 0 || (word == 0) != (at == 0)) {
+                    return -10 - starts.get(at);
+                }
+                int numbers = word == 0 || word == 4 ? 1 : 2;
+                int[] given = new int[2];
+                for (int i = 0; i < numbers; i++) {
+                    String token = tokens.get(at + 1 + i);
+                    if (!token.matches("[0-9]{1,2}") || !stands(word, i, Integer.parseInt(token))) {
+                        return -10 - starts.get(at + 1 + i);
+                    }
+                    given[i] = Integer.parseInt(token);
+                }
+                if (!tokens.get(at + 1 + numbers).equals(";")) {
+                    return -10 - starts.get(at + 1 + numbers);
+                }
+                is(word, given[0], given[1]);
+                at += numbers + 2;
+                items++;
+            }
+            return items;
+        }
+
+        private boolean stands(int word, int i, int number) {
+            switch (word * 2 + i) {
+                case 0: return number <= 5;
+                case 2: return number < soul.wrath;
+                case 4: return number > soul.anger;
+                case 5: return number > 0;
+                case 6: return number <= 7;
+                case 7: return number <= 4;
+                case 8: return number <= 5 && soul.being == 0;
+                default: return true;
+            }
+        }
+
+        private void is(int word, int first, int second) {
+            switch (word) {
+                case 0: soul.kind = first; break;
+                case 1: soul.anger = first; soul.pride = second; break;
+                case 2: soul.wrath = first; soul.height = second; break;
+                case 3: vows[first] = second; break;
+                default:
+                    Soul then = soul.after(first);
+                    soul.anger = then.anger;
+                    soul.pride = then.pride;
+                    soul.said = then.said;
+                    soul.being = then.being;
             }
         }
     }

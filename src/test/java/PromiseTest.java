@@ -1,39 +1,5 @@
 /** Each promise on ordinary inputs, edges and wrong inputs; the dues are worked out by hand from the document. */
-public final class PromiseTest {
-    private static int wrong = 0;
-
-    private static void due(String what, long got, long want) {
-        if (got != want) {
-            wrong++;
-            System.out.println(what + " answered " + got + ", due is " + want);
-        }
-    }
-
-    private static void fraction(String what, JarSpirit x, long above, long below) {
-        due(what + " above", x.part(0), above);
-        due(what + " below", x.part(1), below);
-    }
-
-    private static void type(JarSpirit x, String text) {
-        x.clear();
-        for (int i = 0; i < text.length(); i++) {
-            x.type(text.charAt(i));
-        }
-    }
-
-    private static void feels(String what, JarSpirit x, int anger, int pride, int said, int being) {
-        due(what + " ANGER", x.now(1), anger);
-        due(what + " PRIDE", x.now(2), pride);
-        due(what + " WORDS", x.now(5), said);
-        due(what + " what he is", x.now(6), being);
-    }
-
-    private static void statusIs(String what, JarSpirit x, int bad, int no, int full) {
-        due(what + " BAD", x.status(0), bad);
-        due(what + " NO", x.status(1), no);
-        due(what + " FULL", x.status(2), full);
-    }
-
+public final class PromiseTest extends Check {
     public static void main(String[] args) {
         newObject();
         jar();
@@ -67,10 +33,7 @@ public final class PromiseTest {
         status();
         count();
         digest();
-        System.out.println(wrong == 0 ? "all promises hold" : wrong + " answers are not as due");
-        if (wrong != 0) {
-            System.exit(1);
-        }
+        end("all promises hold");
     }
 
     private static void newObject() {

@@ -1,19 +1,8 @@
 /** THE TEXT: what is read, and where the FAULT stands. */
-public final class TextTest {
-    private static int wrong = 0;
-
-    private static void due(String what, long got, long want) {
-        if (got != want) {
-            wrong++;
-            System.out.println(what + " answered " + got + ", due is " + want);
-        }
-    }
-
+public final class TextTest extends Check {
     private static JarSpirit typed(String text) {
         JarSpirit x = new JarSpirit();
-        for (int i = 0; i < text.length(); i++) {
-            x.type(text.charAt(i));
-        }
+        type(x, text);
         return x;
     }
 
@@ -41,10 +30,11 @@ public final class TextTest {
         tooEarly();
         sayToOneNotOut();
         longText();
-        System.out.println(wrong == 0 ? "all texts are read as due" : wrong + " texts are not read as due");
-        if (wrong != 0) {
-            System.exit(1);
-        }
+        everyByte();
+        everyNumber();
+        asTheyStandThere();
+        endsInEveryItem();
+        end("all texts are read as due");
     }
 
     private static void wholeTexts() {
@@ -230,5 +220,95 @@ public final class TextTest {
         due("150 bytes", x.read(), 29);
         due("WORDS", x.count(0), 28);
         due("ANGER", x.now(1), 0);
+    }
+
+    private static boolean isLetter(int c) {
+        return c >= 'a' && c <= 'z';
+    }
+
+    private static boolean isFigure(int c) {
+        return c >= '0' && c <= '9';
+    }
+
+    private static void read(String text, int due) {
+        due("\"" + text + "\"", typed(text).read(), due);
+    }
+
+    /** "words of letters a .. z, figures, ; ; blanks (32) .. a byte that begins none": each byte at each place. */
+    private static void everyByte() {
+        for (int c = 0; c <= 127; c++) {
+            char sign = (char) c;
+            boolean blank = c == ' ';
+            read(sign + "jar 0;", blank ? 1 : -10);
+            read("jar 0;" + sign, blank ? 1 : -16);
+            read("jar 0;" + sign + "say 0;", blank ? 2 : -16);
+            read("jar" + sign + "0;", blank || c == '0' ? 1 : isLetter(c) ? -10 : -13);
+            read("jar 0" + sign + ";", blank || c >= '0' && c <= '5' ? 1 : isFigure(c) ? -14 : c == ';' ? -16 : -15);
+            read("ja" + sign + "r 0;", -10);
+            read("jar 0;say" + sign + "0;", blank || c == '0' ? 2 : isLetter(c) ? -16 : -19);
+            read("jar 0;vow 1" + sign + "1;", blank ? 2 : isFigure(c) ? -20 : -21);
+        }
+    }
+
+    /** "figures (1 or 2 are one number)", "a run of three figures or more (at its first one), a number not as told". */
+    private static void everyNumber() {
+        for (int number = 0; number <= 120; number++) {
+            boolean two = number <= 99;
+            read("jar " + number + ";", number <= 5 ? 1 : -14);
+            read("jar 0;mood " + number + " 0;", number < 40 ? 2 : -21);
+            read("jar 0;mood 0 " + number + ";", two ? 2 : -23);
+            read("jar 0;bound " + number + " 1;", number > 20 && two ? 2 : -22);
+            read("jar 0;bound 99 " + number + ";", number > 0 && two ? 2 : -25);
+            read("jar 0;vow " + number + " 0;", number <= 7 ? 2 : -20);
+            read("jar 0;vow 0 " + number + ";", number <= 4 ? 2 : -22);
+            read("jar 0;say " + number + ";", number <= 5 ? 2 : -20);
+            String padded = number < 10 ? "0" + number : "" + number;
+            read("jar 0;mood 0 " + padded + ";", two ? 2 : -23);
+            read("jar 0;mood 0 0" + padded + ";", -23);
+        }
+    }
+
+    /** "an ANGER that is WRATH or more, a WRATH that is ANGER or less (as they stand there)". */
+    private static void asTheyStandThere() {
+        read("jar 0;bound 99 1;mood 98 0;", 3);
+        read("jar 0;bound 99 1;mood 99 0;", -32);
+        read("jar 0;bound 21 1;mood 20 0;", 3);
+        read("jar 0;bound 21 1;mood 21 0;", -32);
+        read("jar 0;bound 50 1;bound 30 1;mood 29 0;", 4);
+        read("jar 0;bound 50 1;bound 30 1;mood 30 0;", -43);
+        read("jar 0;mood 0 0;bound 1 1;", 3);
+        read("jar 0;mood 0 0;bound 1 1;mood 0 0;", 4);
+        read("jar 0;mood 0 0;bound 1 1;mood 1 0;", -40);
+        read("jar 0;mood 39 0;bound 40 1;", 3);
+        read("jar 0;mood 39 0;bound 39 1;", -32);
+        read("jar 0;say 5;bound 23 1;", 3);
+        read("jar 0;say 5;bound 22 1;", -28);
+        read("jar 0;say 4;bound 18 1;", 3);
+        read("jar 0;say 4;bound 17 1;", -28);
+        read("jar 0;mood 39 0;say 5;bound 42 1;", 4);
+        read("jar 0;mood 39 0;say 5;bound 41 1;", -38);
+    }
+
+    /** "the TEXT's length, if it ends too early", in each ITEM behind each TOKEN; a word cut short is none. */
+    private static void endsInEveryItem() {
+        String[] items = {"mood 1 2", "bound 30 2", "vow 1 2", "say 1", "say 1 "};
+        String calm = "jar 0;mood 0 0;";
+        int ahead = calm.length();
+        for (String item : items) {
+            String whole = calm + item + ";";
+            read(whole, 3);
+            read(whole + " ", 3);
+            for (int length = ahead; length < whole.length(); length++) {
+                String cut = whole.substring(0, length);
+                boolean inWord = length > ahead && length < ahead + item.indexOf(' ');
+                read(cut, length == ahead ? 2 : inWord ? -10 - ahead : -10 - length);
+                read(cut + " ", length == ahead ? 2 : inWord ? -10 - ahead : -11 - length);
+            }
+        }
+        read("jar 0;bound 3", -22);
+        for (int length = 0; length < 6; length++) {
+            boolean inWord = length == 1 || length == 2;
+            read("jar 0;".substring(0, length), inWord ? -10 : -10 - length);
+        }
     }
 }
