@@ -35,6 +35,7 @@ public final class BoundaryTest extends Check {
         jarsOfOneNotOut();
         imagesAtTheirEdges();
         imagesKeepNoImages();
+        imagesAreNotChangedByOthers();
         statusAtItsEdges();
         countFrom0ToMost();
         digestOfNoneAndAll();
@@ -523,6 +524,25 @@ public final class BoundaryTest extends Check {
         due("25: PLEA (STRUCK, OUT; OUT, OUT)", jarOf(PLAIN, 38, 0, 40, 9).lie(SILENCE), 10);
         due("25: PLEA, moved (STRUCK, OUT; IN, OUT)", jarOf(PLAIN, 39, 9, 40, 9).lie(DOUBT), 2);
         due("25: SLEEPY and asleep", asleep().lie(DOUBT), 5);
+        lieWithAngerAtWrath();
+    }
+
+    /** Who is OUT with ANGER of WRATH or more strikes, if he shams, and does not, if PLEA, OATH move him below. */
+    private static void lieWithAngerAtWrath() {
+        due("25: moved by PLEA (OUT, OUT; STRUCK, STRUCK)", angerAtWrath(20).lie(PLEA), 12);
+        due("25: moved by PLEA alone (STRUCK, OUT; STRUCK, STRUCK)", angerAtWrath(20).lie(SILENCE), 12);
+        due("25: moved by OATH alone (OUT, STRUCK; STRUCK, STRUCK)", angerAtWrath(18).lie(OATH), 12);
+        due("25: STRUCK by each", angerAtWrath(17).lie(OATH), 15);
+    }
+
+    /** One who is OUT with ANGER 20 and this WRATH: undo gives ANGER back, not WRATH. */
+    private static JarSpirit angerAtWrath(int wrath) {
+        JarSpirit x = new JarSpirit();
+        x.say(PLEA);
+        x.mood(0, 0);
+        x.bound(wrath, 9);
+        x.undo();
+        return x;
     }
 
     private static JarSpirit asleep() {
@@ -654,6 +674,43 @@ public final class BoundaryTest extends Check {
         due("30: from 0", x.from(0), 1);
         due("30: the newer 0", x.now(0), TWO);
         due("30: from it twice", x.from(0), 1);
+    }
+
+    /** "IMAGES keep all": other NOTES, VOWS, WORDS said since (as many as before) are none of theirs. */
+    private static void imagesAreNotChangedByOthers() {
+        int[] anger = {0, 0, 0, 0, 2, 6, 4, 8};
+        for (int i = 0; i < 2; i++) {
+            JarSpirit x = full();
+            x.image(i);
+            long kept = x.digest();
+            sayOthers(x);
+            x.image(1 - i);
+            long other = x.digest();
+            due("29: the other is another", kept == other ? 0 : 1, 1);
+            due("30: from " + i, x.from(i), 1);
+            due("30: all as it was kept in " + i, x.digest(), kept);
+            for (int left = 1; left <= 8; left++) {
+                x.undo();
+                feels("30: undone as it was kept in " + i, x, anger[left - 1], 31 - left, 9 - left, OUT);
+            }
+            due("30: from the other", x.from(1 - i), 1);
+            due("30: all as it was kept in the other", x.digest(), other);
+            for (int said = 7; said >= 0; said--) {
+                due("30: undone as it was kept in the other", x.undo(), said);
+                feels("30: undone as it was kept in the other", x, 20, 2 * said, said, OUT);
+            }
+        }
+    }
+
+    /** 8 WORDS, 6 NOTES, 8 VOWS, none as a full one has them. */
+    private static void sayOthers(JarSpirit x) {
+        x.jar(PLAIN);
+        x.bound(33, 44);
+        for (int n = 0; n < 8; n++) {
+            x.say(PRAISE);
+            x.note(5 - n % 6, 50 + n, 7, 8);
+            x.vow(n, 2);
+        }
     }
 
     private static void statusAtItsEdges() {

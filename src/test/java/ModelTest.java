@@ -9,7 +9,7 @@ import java.util.regex.Pattern;
 
 /** Random runs against a second, plainer telling of the document (seeds are fixed: each run is the same). */
 public final class ModelTest extends Check {
-    private static final int RUNS = 250, CALLS = 120, TEXTS = 20000;
+    private static final int RUNS = 1000, TEXTS = 20000;
 
     public static void main(String[] args) {
         for (int run = 0; run < RUNS; run++) {
@@ -363,14 +363,45 @@ public final class ModelTest extends Check {
         }
     }
 
+    /** All that an IMAGE keeps. */
+    private static final class Kept {
+        Soul soul = new Soul(0, 20, 0, 40, 9);
+        int[] vows = {0, 1, 2, 3, 4, 4, 4, 4};
+        final List<Soul> past = new ArrayList<>();
+        final List<int[]> notes = new ArrayList<>();
+
+        Kept copy() {
+            Kept k = new Kept();
+            k.soul = soul.copy();
+            k.vows = vows.clone();
+            k.past.addAll(past);
+            k.notes.addAll(notes);
+            return k;
+        }
+
+        void remember() {
+            past.add(soul.copy());
+            if (past.size() > 8) {
+                past.remove(0);
+            }
+        }
+    }
+
+    /** One object, used for 512 calls at most: it is changed, and all that it has is compared by its digest. */
     private static final class Run {
+        private static final int CALLS = 512, DEAREST = 60;
+
         private final int number;
         private final Random random;
         private final JarSpirit x = new JarSpirit();
-        private Soul soul = new Soul(0, 20, 0, 40, 9);
-        private List<Soul> past = new ArrayList<>();
-        private List<int[]> notes = new ArrayList<>();
-        private int[] vows = {0, 1, 2, 3, 4, 4, 4, 4};
+        private final Kept[] images = new Kept[2];
+        private final int[] refused = {0, 0, 0};
+        private Kept now = new Kept();
+        private Soul soul = now.soul;
+        private String text = "";
+        private long above = 0;
+        private long below = 1;
+        private int calls = 0;
         private String where;
 
         Run(int number) {
@@ -379,29 +410,64 @@ public final class ModelTest extends Check {
         }
 
         void go() {
-            for (int call = 0; call < CALLS; call++) {
-                where = "run " + number + " call " + call;
+            typeSome();
+            for (int step = 0; calls < CALLS - DEAREST; step++) {
+                where = "run " + number + " step " + step;
                 change();
-                compareMind();
-                ask();
+                compare();
+                if (upTo(2) == 0) {
+                    ask();
+                }
             }
+            goBackToFirst();
         }
 
         private int upTo(int most) {
             return random.nextInt(most + 1);
         }
 
+        /** An answer is due, of one call more; a refusal is counted. */
+        private void call(String what, long got, long want) {
+            calls++;
+            due(where + " " + what, got, want);
+        }
+
+        private long refuse(long answer) {
+            refused[answer == NO ? 1 : answer == FULL ? 2 : 0]++;
+            return answer;
+        }
+
+        private void typeSome() {
+            where = "run " + number + " at first";
+            while (text.isEmpty() || text.length() > 50) {
+                text = anyText(random);
+            }
+            for (int i = 0; i < text.length(); i++) {
+                call("type", x.type(text.charAt(i)), i + 1);
+            }
+        }
+
         private void change() {
-            switch (upTo(11)) {
+            switch (upTo(17)) {
                 case 0: changeJar(); break;
                 case 1: changeMood(); break;
                 case 2: changeBound(); break;
                 case 3: changeVow(); break;
-                case 4: changeNotes(); break;
-                case 5: lidOff(); break;
-                case 6: goBack(); break;
+                case 4: case 5: addNote(); break;
+                case 6: forgetNotes(); break;
+                case 7: lidOff(); break;
+                case 8: goBack(); break;
+                case 9: keepImage(); break;
+                case 10: goOnFromImage(); break;
+                case 11: readText(); break;
+                case 12: callBadly(); break;
                 default: sayOne();
             }
+        }
+
+        private void goOn(Kept from) {
+            now = from;
+            soul = now.soul;
         }
 
         private void changeJar() {
@@ -409,18 +475,16 @@ public final class ModelTest extends Check {
                 return;
             }
             int kind = upTo(5);
-            due(where + " jar", x.jar(kind), soul.said);
-            soul = new Soul(kind, 20, 0, 40, 9);
-            past = new ArrayList<>();
-            notes = new ArrayList<>();
-            vows = new int[] {0, 1, 2, 3, 4, 4, 4, 4};
+            call("jar", x.jar(kind), soul.said);
+            goOn(new Kept());
+            soul.kind = kind;
         }
 
         private void changeMood() {
             int anger = upTo(upTo(1) == 0 ? 99 : 30);
             int pride = upTo(upTo(1) == 0 ? 99 : 12);
             boolean taken = anger < soul.wrath;
-            due(where + " mood", x.mood(anger, pride), taken ? 1 : -3);
+            call("mood", x.mood(anger, pride), taken ? 1 : refuse(NO));
             soul.anger = taken ? anger : soul.anger;
             soul.pride = taken ? pride : soul.pride;
         }
@@ -429,7 +493,7 @@ public final class ModelTest extends Check {
             int wrath = 1 + upTo(98);
             int height = 1 + upTo(upTo(1) == 0 ? 98 : 30);
             boolean taken = soul.anger < wrath;
-            due(where + " bound", x.bound(wrath, height), taken ? 1 : -3);
+            call("bound", x.bound(wrath, height), taken ? 1 : refuse(NO));
             soul.wrath = taken ? wrath : soul.wrath;
             soul.height = taken ? height : soul.height;
         }
@@ -437,75 +501,137 @@ public final class ModelTest extends Check {
         private void changeVow() {
             int c = upTo(7);
             int v = upTo(4);
-            due(where + " vow", x.vow(c, v), vows[c]);
-            vows[c] = v;
+            call("vow", x.vow(c, v), now.vows[c]);
+            now.vows[c] = v;
         }
 
-        private void changeNotes() {
-            if (notes.size() > 2) {
-                due(where + " forget", x.forget(), notes.size());
-                notes.clear();
-                return;
-            }
+        private void addNote() {
             int w = upTo(5);
             int n = upTo(9);
             int[] m = Soul.move(upTo(5), w, n);
-            notes.add(new int[] {w, n, m[0], m[1]});
-            due(where + " note", x.note(w, n, m[0], m[1]), notes.size());
+            boolean room = now.notes.size() < 6;
+            if (room) {
+                now.notes.add(new int[] {w, n, m[0], m[1]});
+            }
+            call("note", x.note(w, n, m[0], m[1]), room ? now.notes.size() : refuse(FULL));
         }
 
-        private void remember() {
-            past.add(soul.copy());
-            if (past.size() > 8) {
-                past.remove(0);
-            }
+        private void forgetNotes() {
+            call("forget", x.forget(), now.notes.size());
+            now.notes.clear();
         }
 
         private void lidOff() {
-            due(where + " open", x.open(), soul.being == 1 ? soul.pride : -3);
+            call("open", x.open(), soul.being == 1 ? soul.pride : refuse(NO));
             if (soul.being == 1) {
-                remember();
+                now.remember();
                 soul.being = 0;
                 soul.pride = 0;
             }
         }
 
         private void goBack() {
-            if (past.isEmpty()) {
-                due(where + " undo", x.undo(), -3);
+            if (now.past.isEmpty()) {
+                call("undo", x.undo(), refuse(NO));
                 return;
             }
-            Soul old = past.remove(past.size() - 1);
+            Soul old = now.past.remove(now.past.size() - 1);
             soul.anger = old.anger;
             soul.pride = old.pride;
             soul.said = old.said;
             soul.being = old.being;
-            due(where + " undo", x.undo(), soul.said);
+            call("undo", x.undo(), soul.said);
+        }
+
+        private void goBackToFirst() {
+            where = "run " + number + " at last";
+            while (!now.past.isEmpty()) {
+                goBack();
+                compare();
+            }
+        }
+
+        private void keepImage() {
+            int i = upTo(1);
+            images[i] = now.copy();
+            call("image " + i, x.image(i), 1);
+        }
+
+        private void goOnFromImage() {
+            int i = upTo(1);
+            call("from " + i, x.from(i), images[i] == null ? refuse(NO) : 1);
+            if (images[i] != null) {
+                goOn(images[i].copy());
+            }
+        }
+
+        private void readText() {
+            Telling telling = new Telling(text);
+            int items = telling.read();
+            call("read of \"" + text + "\"", x.read(), items);
+            if (items > 0) {
+                goOn(new Kept());
+                soul = telling.soul;
+                now.soul = soul;
+                now.vows = telling.vows;
+            }
+        }
+
+        private void callBadly() {
+            switch (upTo(4)) {
+                case 0: call("vow", x.vow(upTo(7), 5), refuse(BAD)); break;
+                case 1: call("say", x.say(-1), refuse(BAD)); break;
+                case 2: call("image", x.image(2), refuse(BAD)); break;
+                case 3: call("odds", x.odds(10 * upTo(9), 11), refuse(BAD)); break;
+                default: call("now", x.now(7), refuse(BAD));
+            }
         }
 
         private void sayOne() {
             int w = upTo(5);
             if (soul.being != 0) {
-                due(where + " say", x.say(w), -3);
+                call("say", x.say(w), refuse(NO));
                 return;
             }
-            remember();
+            now.remember();
             soul = soul.after(w);
-            due(where + " say", x.say(w), soul.being);
+            now.soul = soul;
+            call("say", x.say(w), soul.being);
         }
 
-        private void compareMind() {
-            int[] mind = {soul.kind, soul.anger, soul.pride, soul.wrath, soul.height, soul.said, soul.being};
-            for (int what = 0; what < mind.length; what++) {
-                due(where + " now " + what, x.now(what), mind[what]);
+        private void compare() {
+            call("digest", x.digest(), digestDue());
+            int reason = upTo(2);
+            call("status " + reason, x.status(reason), refused[reason]);
+        }
+
+        private long digestDue() {
+            List<Long> all = new ArrayList<>();
+            add(all, soul.said, now.notes.size(), now.past.size(), text.length());
+            add(all, soul.kind, soul.anger, soul.pride, soul.wrath, soul.height, soul.being);
+            add(all, now.vows);
+            for (int[] note : now.notes) {
+                add(all, note);
             }
-            due(where + " undos", x.count(2), past.size());
+            all.add(above);
+            all.add(below);
+            long h = 1223;
+            for (long v : all) {
+                h = 31 * h + v;
+            }
+            return h;
+        }
+
+        private static void add(List<Long> all, int... more) {
+            for (int v : more) {
+                all.add((long) v);
+            }
         }
 
         private void ask() {
             switch (upTo(8)) {
                 case 0: askWords(); break;
-                case 1: compareFewest(where, x, soul); break;
+                case 1: compareFewest(where, x, soul); calls += 14; break;
                 case 2: askDelay(); break;
                 case 3: askStrikes(); break;
                 case 4: askVows(); break;
@@ -540,26 +666,26 @@ public final class ModelTest extends Check {
             }
             int[] dues = {s.anger, s.pride, s.being, s.said - soul.said};
             for (int what = 0; what < 4; what++) {
-                due(where + " words " + told(row) + " " + what, x.words(told(row), what), dues[what]);
+                call("words " + told(row) + " " + what, x.words(told(row), what), dues[what]);
             }
         }
 
         private void askDelay() {
             for (int which = 0; which < 2; which++) {
                 List<Integer> row = soul.delay(which == 1);
-                due(where + " delay", x.delay(which, -1), row.size());
+                call("delay", x.delay(which, -1), row.size());
                 for (int i = 0; i <= row.size(); i++) {
-                    due(where + " delay " + i, x.delay(which, i), i < row.size() ? row.get(i) : -5);
+                    call("delay " + i, x.delay(which, i), i < row.size() ? row.get(i) : -5);
                 }
             }
         }
 
         private void askStrikes() {
             for (int w = 0; w < 6; w++) {
-                due(where + " strikes " + w, x.strikes(w), soul.strikes(w));
+                call("strikes " + w, x.strikes(w), soul.strikes(w));
                 int[] m = Soul.move(soul.kind, w, soul.said);
-                due(where + " moves ANGER " + w, x.moves(w, 0), m[0]);
-                due(where + " moves PRIDE " + w, x.moves(w, 1), m[1]);
+                call("moves ANGER " + w, x.moves(w, 0), m[0]);
+                call("moves PRIDE " + w, x.moves(w, 1), m[1]);
             }
         }
 
@@ -568,24 +694,23 @@ public final class ModelTest extends Check {
                 int bits = 0;
                 int castUp = -1;
                 for (int c = 7; c >= 0; c--) {
-                    bits += vows[c] == v ? 1 << c : 0;
+                    bits += now.vows[c] == v ? 1 << c : 0;
                     boolean fromHere = true;
                     for (int later = c; later < 8; later++) {
-                        fromHere &= vows[later] >= v;
+                        fromHere &= now.vows[later] >= v;
                     }
                     castUp = fromHere ? c : castUp;
                 }
-                due(where + " since " + v, x.since(v), bits);
-                due(where + " cast " + v, x.cast(v), castUp);
+                call("since " + v, x.since(v), bits);
+                call("cast " + v, x.cast(v), castUp);
             }
             int c = upTo(7);
             int sum = 0;
             for (int i = c; i < 8; i++) {
-                sum += vows[i] == 4 ? -4 : vows[i];
+                sum += now.vows[i] == 4 ? -4 : now.vows[i];
             }
-            due(where + " reward", x.reward(c), 1);
-            due(where + " reward", x.part(0) * (8 - c), sum * x.part(1));
-            due(where + " lowest terms", BigInteger.valueOf(x.part(0)).gcd(BigInteger.valueOf(x.part(1))).intValue(), 1);
+            call("reward", x.reward(c), 1);
+            fractionIs(new BigInteger[] {BigInteger.valueOf(sum), BigInteger.valueOf(8 - c)});
         }
 
         private void askKinds() {
@@ -593,7 +718,7 @@ public final class ModelTest extends Check {
             int bits = 0;
             for (int kind = 0; kind < 6; kind++) {
                 boolean fits = true;
-                for (int[] n : notes) {
+                for (int[] n : now.notes) {
                     int[] m = Soul.move(kind, n[0], n[1]);
                     fits &= m[0] == n[2] && m[1] == n[3];
                 }
@@ -602,7 +727,7 @@ public final class ModelTest extends Check {
                     bits += 1 << kind;
                 }
             }
-            due(where + " is", x.is(), bits);
+            call("is", x.is(), bits);
             int best = -1;
             int fewest = 100;
             for (int w = 0; w < 6 && !kinds.isEmpty(); w++) {
@@ -619,12 +744,12 @@ public final class ModelTest extends Check {
                     best = w;
                 }
             }
-            due(where + " next", x.next(), best);
+            call("next", x.next(), best);
         }
 
         private void askLie() {
             for (int w = 0; w < 6; w++) {
-                due(where + " lie " + w, x.lie(w), soul.being == 0 ? soul.lie(w) : -3);
+                call("lie " + w, x.lie(w), soul.being == 0 ? soul.lie(w) : refuse(NO));
             }
         }
 
@@ -632,15 +757,22 @@ public final class ModelTest extends Check {
             int[] row = anyRow(7);
             int c = upTo(10);
             BigInteger[] odds = soul.odds(row, c);
-            due(where + " odds", x.odds(told(row), c), 1);
-            due(where + " odds above", x.part(0), odds[0].longValue());
-            due(where + " odds below", x.part(1), odds[1].longValue());
+            call("odds", x.odds(told(row), c), 1);
+            fractionIs(odds);
+        }
+
+        private void fractionIs(BigInteger[] due) {
+            BigInteger divisor = due[0].gcd(due[1]);
+            above = due[0].divide(divisor).longValue();
+            below = due[1].divide(divisor).longValue();
+            call("above", x.part(0), above);
+            call("below", x.part(1), below);
         }
 
         private void askJars() {
             int seed = upTo(999999);
             int n = upTo(60);
-            due(where + " jars", x.jars(seed, n), soul.jars(seed, n));
+            call("jars", x.jars(seed, n), soul.jars(seed, n));
         }
     }
 }
