@@ -161,8 +161,10 @@ public final class BoundaryTest extends Check {
         due("7: empty", x.count(3), 0);
         due("7: an empty one is not read", x.read(), -10);
         due("7: the first again", x.type('j'), 1);
-        type(x, fullText());
-        alike("7: cleared and typed again", x, full());
+        x = rich();
+        due("7: of 29", x.clear(), 29);
+        type(x, RICH_TEXT);
+        alike("7: cleared and typed again", x, rich());
         x = new JarSpirit();
         x.type(0);
         due("7: of one", x.clear(), 1);
@@ -640,10 +642,10 @@ public final class BoundaryTest extends Check {
             due("30: THE TEXT stays", x.count(3), 6);
             fraction("30: THE FRACTION stays", x, -4, 1);
             statusIs("30: STATUS stays", x, 2, 1, 1);
-            type(x, fullText());
             x.reward(2);
             JarSpirit twin = full();
             twin.image(i);
+            type(twin, "jar 1;");
             alike("30: from " + i + " all is as it was", x, twin);
         }
         JarSpirit x = full();

@@ -9,6 +9,9 @@ class Check {
     static final int NONE = -1, BAD = -2, NO = -3, FULL = -4;
     static final int LOWEST = Integer.MIN_VALUE, HIGHEST = Integer.MAX_VALUE;
 
+    /** THE TEXT of a rich one: 29 bytes, 4 ITEMS. */
+    static final String RICH_TEXT = "jar 3;mood 7 8;say 1;vow 2 4;";
+
     private static final int SHOWN = 60;
     private static int wrong = 0;
 
@@ -73,7 +76,7 @@ class Check {
     /** One who is OUT, with all that there can be: NOTES, both IMAGES, THE TEXT, THE FRACTION, STATUS, 3 WORDS to undo. */
     static JarSpirit rich() {
         JarSpirit x = new JarSpirit();
-        type(x, "jar 3;mood 7 8;say 1;vow 2 4;");
+        type(x, RICH_TEXT);
         for (int i = 0; i < 7; i++) {
             x.note(0, 0, 0, 0);
         }

@@ -295,7 +295,7 @@ public final class RefusalTest extends Check {
         int bad = x.status(0);
         int no = x.status(1);
         int full = x.status(2);
-        for (int i = 1; i <= 60; i++) {
+        for (int i = 1; i <= 40; i++) {
             x.say(6);
             x.say(0);
             x.type('a');
