@@ -531,20 +531,10 @@ public final class BoundaryTest extends Check {
 
     /** Who is OUT with ANGER of WRATH or more strikes, if he shams, and does not, if PLEA, OATH move him below. */
     private static void lieWithAngerAtWrath() {
-        due("25: moved by PLEA (OUT, OUT; STRUCK, STRUCK)", angerAtWrath(20).lie(PLEA), 12);
-        due("25: moved by PLEA alone (STRUCK, OUT; STRUCK, STRUCK)", angerAtWrath(20).lie(SILENCE), 12);
-        due("25: moved by OATH alone (OUT, STRUCK; STRUCK, STRUCK)", angerAtWrath(18).lie(OATH), 12);
-        due("25: STRUCK by each", angerAtWrath(17).lie(OATH), 15);
-    }
-
-    /** One who is OUT with ANGER 20 and this WRATH: undo gives ANGER back, not WRATH. */
-    private static JarSpirit angerAtWrath(int wrath) {
-        JarSpirit x = new JarSpirit();
-        x.say(PLEA);
-        x.mood(0, 0);
-        x.bound(wrath, 9);
-        x.undo();
-        return x;
+        due("25: moved by PLEA (OUT, OUT; STRUCK, STRUCK)", angryButOut(20).lie(PLEA), 12);
+        due("25: moved by PLEA alone (STRUCK, OUT; STRUCK, STRUCK)", angryButOut(20).lie(SILENCE), 12);
+        due("25: moved by OATH alone (OUT, STRUCK; STRUCK, STRUCK)", angryButOut(18).lie(OATH), 12);
+        due("25: STRUCK by each", angryButOut(17).lie(OATH), 15);
     }
 
     private static JarSpirit asleep() {
@@ -738,15 +728,6 @@ public final class BoundaryTest extends Check {
             changesNothing("32: of a rich one", Check::rich, x -> x.count(what), rich[what]);
             changesNothing("32: of a full one", Check::full, x -> x.count(what), most[what]);
         }
-    }
-
-    /** The long goes round, as Java's does. */
-    private static long digestOf(long... values) {
-        long h = 1223;
-        for (long v : values) {
-            h = 31 * h + v;
-        }
-        return h;
     }
 
     private static void digestOfNoneAndAll() {

@@ -61,6 +61,15 @@ class Check {
         due(what + " FULL", x.status(2), full);
     }
 
+    /** The digest of these values (the long goes round, as Java's does). */
+    static long digestOf(long... values) {
+        long h = 1223;
+        for (long v : values) {
+            h = 31 * h + v;
+        }
+        return h;
+    }
+
     // ---- jars to begin from
 
     /** One of a KIND in a mood, within bounds (OUT, nothing said). */
@@ -103,6 +112,16 @@ class Check {
         x.reward(2);
         x.jar(6);
         x.open();
+        return x;
+    }
+
+    /** One who is OUT with ANGER 20 and this WRATH: undo gives ANGER back, not WRATH. */
+    static JarSpirit angryButOut(int wrath) {
+        JarSpirit x = new JarSpirit();
+        x.say(PLEA);
+        x.mood(0, 0);
+        x.bound(wrath, 9);
+        x.undo();
         return x;
     }
 

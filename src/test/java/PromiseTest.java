@@ -775,14 +775,6 @@ public final class PromiseTest extends Check {
         due("32: -1", x.count(-1), -2);
     }
 
-    private static long digestOf(long... values) {
-        long h = 1223;
-        for (long v : values) {
-            h = 31 * h + v;
-        }
-        return h;
-    }
-
     private static void digest() {
         JarSpirit x = new JarSpirit();
         due("33: new", x.digest(), digestOf(0, 0, 0, 0, 0, 20, 0, 40, 9, 0, 0, 1, 2, 3, 4, 4, 4, 4, 0, 1));

@@ -159,15 +159,6 @@ public final class TermsTest extends Check {
         hears(angryButOut(20), PRAISE, 20, 2, STRUCK);
     }
 
-    private static JarSpirit angryButOut(int wrath) {
-        JarSpirit x = new JarSpirit();
-        x.say(PLEA);
-        x.mood(0, 0);
-        x.bound(wrath, 9);
-        x.undo();
-        return x;
-    }
-
     /** "if it was DOUBT, and PRIDE is HEIGHT or more, he is IN". */
     private static void prideAtHeight() {
         hears(jarOf(PLAIN, 20, 5, 40, 9), DOUBT, 21, 8, OUT);
